@@ -15,6 +15,7 @@ public final class DeedsTest {
         undo();
         undoByParts();
         keepAndOn();
+        onBehindOtherDeeds();
         keepRefused();
         due.end();
     }
@@ -149,6 +150,11 @@ public final class DeedsTest {
         }
         due.is("full: rake() of a clear one", clear.rake(), LeatDays.STATE);
         due.is("full: rake()", clogged.rake(), LeatDays.FULL);
+        due.is("full: keep(0)", clogged.keep(0), 40);
+        due.is("full: undo(40)", clogged.undo(40), 0);
+        due.is("full: undo(7)", clogged.undo(7), 33);
+        due.is("full: on(0)", clogged.on(0), 40);
+        due.is("full: step()", clogged.step(), LeatDays.FULL);
     }
 
     private static void undo() {
@@ -225,6 +231,29 @@ public final class DeedsTest {
         due.is("digest() is by what was done", y.digest(), early);
     }
 
+    private static void onBehindOtherDeeds() {
+        LeatDays x = Due.leat("d17h19d05");
+        x.fish(1);
+        x.hatch(3);
+        x.step();
+        x.keep(2);
+        long before = x.digest();
+        x.undo(0);
+        x.hatch(1);
+        x.step();
+        x.fish(0);
+        x.step();
+        due.is("on(2)", x.on(2), 3);
+        due.is("digest() as it was kept", x.digest(), before);
+        x.undo(1);
+        due.is("undone by what was kept: count(7)", x.count(7), 2);
+        due.is("undone by what was kept: count(3)", x.count(3), 2);
+        x.step();
+        x.rake();
+        due.is("on(2), kept as it was", x.on(2), 3);
+        due.is("digest() as it was kept", x.digest(), before);
+    }
+
     private static void keepRefused() {
         LeatDays x = new LeatDays();
         due.is("keep(0) without DAYS", x.keep(0), LeatDays.STATE);
@@ -244,6 +273,7 @@ public final class DeedsTest {
     private static int keepOfNone() {
         LeatDays x = Due.leat("d10d10");
         int answer = x.keep(0);
+        due.is("count(10) of none", x.count(10), 1);
         x.step();
         due.is("on(0) of none", x.on(0), 0);
         due.is("count(2)", x.count(2), 0);

@@ -6,6 +6,7 @@ public final class DoingTest {
     public static void main(String[] args) {
         best();
         plan();
+        planFarther();
         planRefused();
         rakes();
         fishes();
@@ -56,6 +57,29 @@ public final class DoingTest {
         due.is("plan(2, 3) over a ROW", x.plan(2, 3), 72);
         sameRow(x, 3, 0, 4);
         due.is("asked() is not told", x.asked(), 4);
+    }
+
+    /** What is best ahead of one STEP is told by the STEPS behind it. */
+    private static void planFarther() {
+        LeatDays x = Due.leat("d50d10r00");
+        due.is("plan(3, 0) to and fro", x.plan(3, 0), 40);
+        sameRow(x, 0, 4, 0, 4);
+        due.is("plan(4, 0) to and fro", x.plan(4, 0), 40);
+        sameRow(x, 0, 4, 0, 4, 0);
+        due.is("plan(5, 0) to and fro", x.plan(5, 0), 60);
+        sameRow(x, 0, 4, 0, 4, 0, 4);
+        x = Due.leat("d10e00d20");
+        due.is("plan(2, 0) to a RED one", x.plan(2, 0), 9);
+        sameRow(x, 0, 4, 4);
+        x = Due.leat("d50d10d00d80");
+        due.is("plan(3, 0) by what is closed later", x.plan(3, 0), 40);
+        sameRow(x, 0, 4, 0, 4);
+        x = Due.leat("d90d00f90d80");
+        due.is("plan(2, 0) by no more than 2 STEPS", x.plan(2, 0), 36);
+        sameRow(x, 0, 4, 0);
+        x = Due.leat("r10r00");
+        due.is("plan(2, 0) of little", x.plan(2, 0), 1);
+        sameRow(x, 0, 1, 0);
     }
 
     private static void planRefused() {

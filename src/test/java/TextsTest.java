@@ -8,6 +8,7 @@ public final class TextsTest {
         put();
         faults();
         faultRefused();
+        shorterAnew();
         leat();
         leatAnew();
         leatRefused();
@@ -105,6 +106,18 @@ public final class TextsTest {
         due.is("fault of a byte below 0", x.fault(3), 0);
         x.put(3, 0, 'd' + 256);
         due.is("fault behind a cut letter", x.fault(3), 1);
+    }
+
+    /** What stood behind a shorter TEXT's end is gone. */
+    private static void shorterAnew() {
+        LeatDays x = new LeatDays();
+        Due.write(x, 0, "d12f34");
+        Due.write(x, 0, "d12f3");
+        due.is("fault of a shorter TEXT", x.fault(0), 5);
+        Due.write(x, 0, "d12f");
+        due.is("fault of a still shorter TEXT", x.fault(0), 4);
+        x.text(0, 6);
+        due.is("fault of blanks anew", x.fault(0), 6);
     }
 
     private static void leat() {

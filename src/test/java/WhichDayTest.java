@@ -56,6 +56,11 @@ public final class WhichDayTest {
         due.finds("where of 21, one below 0", x, x.where(0), SIZE);
         Due.row(x, 0, 6, 5, -1);
         due.finds("where of one below 0", x, x.where(0), UNLIKE);
+        Due.row(x, 0, -1);
+        due.finds("where of one alone, below 0", x, x.where(0), UNLIKE);
+        Due.row(x, 0, 6, -1);
+        Due.row(x, 0, 6);
+        due.is("where of a shorter ROW anew", x.where(0), 3);
         Due.row(x, 0, 0, Integer.MIN_VALUE);
         due.finds("where of the least", x, x.where(0), UNLIKE);
     }
