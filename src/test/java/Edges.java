@@ -43,6 +43,13 @@ final class Edges {
         due.is(told(name, a), call(x, name, a), want);
     }
 
+    /** A call that is answered, whatever it says: no BAD, FULL, STATE, FINDING. */
+    void answers(LeatDays x, String name, int... a) {
+        long got = call(x, name, a);
+        boolean refused = got == LeatDays.BAD || got == LeatDays.FULL || got == LeatDays.STATE || got == LeatDays.FINDING;
+        due.is(told(name, a) + " is refused", refused ? 1 : 0, 0);
+    }
+
     void tells(LeatDays x, long want, long asked, String name, int... a) {
         due.tells(told(name, a), x, call(x, name, a), want, asked);
     }
