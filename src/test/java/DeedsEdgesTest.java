@@ -27,6 +27,7 @@ public final class DeedsEdgesTest {
         keepOfNoneAndOfForty();
         onNumbers();
         onIsAsItWasKept();
+        onBehindOtherDeeds();
         edges.end();
     }
 
@@ -240,6 +241,9 @@ public final class DeedsEdgesTest {
     /** 18: "the DRIFT that it had": 0 to 9; DAYS 0 to the last. */
     private static void fishNumbers() {
         edges.bounds(Scene.LIVED, 0, 0, 2, "fish", 0);
+        // DAY 1 was FISHED, 32 more or less is no DAY.
+        edges.bad(Scene.LIVED, "fish", 33);
+        edges.bad(Scene.LIVED, "fish", -31);
         LeatDays x = Due.leat("d09f01r00p09e09h09d00d00h05");
         int[] drifts = {9, 1, 0, 9, 9, 9, 0, 0, 5};
         edges.refusedOn(x, BAD, "fish", 9);
@@ -382,5 +386,42 @@ public final class DeedsEdgesTest {
         edges.is(x, 3, "on", 0);
         edges.is(x, 2, "count", 10);
         edges.is(x, Scene.TOLD, "asked");
+    }
+
+    /** 21: what is done otherwise since, in the same numbers, is gone, and undone is what was kept. */
+    private static void onBehindOtherDeeds() {
+        LeatDays x = Scene.LIVED.make();
+        LeatDays twin = Scene.LIVED.make();
+        twin.on(0);
+        long kept = twin.digest();
+        twin.on(2);
+        long keptLater = twin.digest();
+        x.undo(0);
+        x.hatch(1);
+        x.fish(2);
+        x.step();
+        x.step();
+        x.step();
+        edges.is(x, 3, "on", 0);
+        edges.is(x, kept, "digest");
+        edges.is(x, 3, "undo", 0);
+        x.step();
+        x.hatch(0);
+        edges.is(x, 4, "on", 2);
+        edges.is(x, keptLater, "digest");
+        edges.is(x, 1, "undo", 3);
+        edges.is(x, kept, "digest");
+        edges.is(x, 1, "undo", 2);
+        edges.is(x, 2, "count", 3);
+        edges.is(x, 1, "undo", 1);
+        edges.is(x, 0, "count", 7);
+        // Kept anew in a place where other DEEDS were kept.
+        x.hatch(1);
+        x.step();
+        long anew = x.digest();
+        edges.is(x, 3, "keep", 0);
+        edges.is(x, 4, "on", 2);
+        edges.is(x, 3, "on", 0);
+        edges.is(x, anew, "digest");
     }
 }

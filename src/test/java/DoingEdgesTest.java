@@ -119,6 +119,10 @@ public final class DoingEdgesTest {
         edges.row(y, 0, 4, 0, 4);
         edges.is(y, 216, "plan", 5, 0);
         edges.row(y, 0, 4, 0, 4, 0, 4);
+        // That it is closed then is seen ahead of the first: 40 and 40, not 36 and 36 by going back at once.
+        LeatDays z = Due.leat("f50d10d00d90d90");
+        edges.is(z, 80, "plan", 3, 0);
+        edges.row(z, 0, 4, 0, 4);
         LeatDays clogged = Scene.LIVED.make();
         // The RED one at the WHEEL: 8 less 7 and 5.
         edges.is(clogged, 6, "plan", 1, 0);

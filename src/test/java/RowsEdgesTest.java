@@ -318,6 +318,10 @@ public final class RowsEdgesTest {
             Due.row(x, 0, rows[i]);
             edges.tells(x, 1, means[i], "mean", 0);
         }
+        // What stood behind the end of a shorter ROW is none of it.
+        Due.row(x, 0, 1, 2, 300);
+        Due.row(x, 0, 1, 3);
+        edges.tells(x, 1, 2, "mean", 0);
     }
 
     /** 7: the sum of 40 ints is beyond an int. */

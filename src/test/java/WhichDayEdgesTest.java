@@ -103,6 +103,12 @@ public final class WhichDayEdgesTest {
             edges.refusedOn(x, LeatDays.BAD, "kinds", 2, 3);
         }
         LeatDays x = Due.leat("d10d10");
+        // What stood behind the end of a shorter ROW is none of it.
+        Due.row(x, 3, 2, -1);
+        Due.row(x, 3, 2);
+        edges.is(x, 3, "where", 3);
+        edges.is(x, 2, "flows", 0, 3);
+        edges.is(x, 63, "kinds", 1, 3);
         for (int v : new int[] {0, 1, 3, MAX}) {
             Due.row(x, 3, v);
             edges.is(x, 0, "where", 3);
@@ -275,8 +281,10 @@ public final class WhichDayEdgesTest {
         edges.tells(x, 4, 4, "look", 2);
         x.hatch(0);
         edges.tells(x, 3, 2, "look", 0);
-        // By 1: 9 18 9 9 18 8; by 2: 18 36 9 18 36 17.
-        edges.tells(Due.leat("d91d00"), 2, 2, "look", 0);
+        // By 1: 9 18 9 9 18 8; by 2: 18 36 9 18 36 17; whatever it is truly.
+        for (char letter : "dfrpeh".toCharArray()) {
+            edges.tells(Due.leat(letter + "91d00"), 2, 2, "look", 0);
+        }
         // By 1, 9 less 9 alone is 0; a PIG is a DAY: 9 18 9 9 18 0, by 2 9 apart from 18.
         edges.tells(Due.leat("d99d00"), 2, 2, "look", 0);
         // Without FLOW none but a RED one GRINDS, by 4.
