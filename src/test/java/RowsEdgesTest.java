@@ -251,7 +251,7 @@ public final class RowsEdgesTest {
         edges.is(x, 1, "copy", 0, 3, 5, 40, 0);
         edges.is(x, 1, "copy", 1, 0, 1, 0, 0);
         edges.is(x, 1, "copy", 1, 0, 0, 3, 0);
-        edges.is(x, before == x.digest() ? 5 : -5, "count", 8);
+        edges.is(x, before, "digest");
         edges.is(x, Scene.TOLD, "asked");
     }
 
